@@ -26,7 +26,7 @@ public final class TellingBench {
     /** A doubt is at most 4 and a law's numbers add up to 14: 16 times a sum stays within 896. */
     private static final int NEAR_BOUND = 1024;
     private static final int MOST_WORDS = 8;
-    /** The half that a length of nine is: one part of this many. */
+    /** Halves are counted in parts so small that a length of nine, the longest, takes one. */
     private static final int WHOLE_OF_HALVES = 512;
 
     /** The plain ones, eight numbers each, for the sets 0 to 7. */
