@@ -130,10 +130,7 @@ public final class TellingBench {
         if (what == 4) {
             return world.total;
         }
-        if (what >= FIRST_SETTING_TOLD && what < FIRST_SETTING_TOLD + SETTINGS) {
-            return world.weights[what - FIRST_SETTING_TOLD];
-        }
-        return NONE;
+        return what >= FIRST_SETTING_TOLD ? world.weightOf(what - FIRST_SETTING_TOLD) : NONE;
     }
 
     public boolean mix(int f, int h, int g) {
@@ -482,6 +479,14 @@ public final class TellingBench {
 
         private boolean hasSetting(int a, int b, int c) {
             return a >= 0 && a < states[0] && b >= 0 && b < states[1] && c >= 0 && c < states[2];
+        }
+
+        /** NONE where the world has no such setting, as it has no such state or none was told. */
+        private int weightOf(int setting) {
+            if (setting < 0 || setting >= SETTINGS) {
+                return NONE;
+            }
+            return hasSetting(setting % 3, setting / 3 % 3, setting / 9) ? weights[setting] : NONE;
         }
 
         private boolean hasStatesOf(World other) {

@@ -1,7 +1,9 @@
 import java.math.BigInteger;
 import java.util.ArrayList;
 import java.util.Arrays;
+import java.util.HashMap;
 import java.util.List;
+import java.util.Map;
 import java.util.TreeMap;
 
 /**
@@ -86,8 +88,22 @@ final class Model {
             case 0 -> made(g) ? 1 : 0;
             case 1, 2, 3 -> states[g][what - 1];
             case 4 -> total(g);
-            default -> in(what, 10, 36) ? weights[g][what - 10] : -1;
+            default -> toldOfSettings(g).getOrDefault(what, -1);
         };
+    }
+
+    /** By what told() is asked: the weights of those settings alone that the world has. */
+    private Map<Integer, Integer> toldOfSettings(int g) {
+        Map<Integer, Integer> told = new HashMap<>();
+        for (int c = 0; c < states[g][2]; c++) {
+            for (int b = 0; b < states[g][1]; b++) {
+                for (int a = 0; a < states[g][0]; a++) {
+                    int setting = a + 3 * b + 9 * c;
+                    told.put(10 + setting, weights[g][setting]);
+                }
+            }
+        }
+        return told;
     }
 
     boolean mix(int f, int h, int g) {

@@ -10,6 +10,8 @@ public final class WorldsTest {
         weightRefuses();
         madeAsLongAsWeighed();
         toldAnswersNoneForOthers();
+        toldOfSettingsThatTheWorldHas();
+        toldOfSettingsThatChange();
         mixAdds();
         mixRefuses();
         mixOntoItself();
@@ -23,6 +25,9 @@ public final class WorldsTest {
         for (int g = 0; g < 4; g++) {
             for (int what = 0; what <= 4; what++) {
                 DUE.is("new told " + g + " " + what, x.told(g, what), 0);
+            }
+            for (int what = 10; what <= 36; what++) {
+                DUE.is("no setting " + g + " " + what, x.told(g, what), -1);
             }
             DUE.is("new sign", x.sign(g, 0), -2);
         }
@@ -126,6 +131,48 @@ public final class WorldsTest {
             DUE.is("told in " + g, x.told(g, 0), -1);
             DUE.is("told in " + g, x.told(g, 10), -1);
         }
+    }
+
+    private static void toldOfSettingsThatTheWorldHas() {
+        TellingBench x = new TellingBench();
+        for (int kind = 0; kind < 27; kind++) {
+            int a = kind % 3 + 1;
+            int b = kind / 3 % 3 + 1;
+            int c = kind / 9 + 1;
+            x.world(1, a, b, c);
+            hasSettingsOf(x, a, b, c, 0);
+            x.weight(1, 0, 0, 0, 7);
+            hasSettingsOf(x, a, b, c, 7);
+            DUE.is("other world " + kind, x.told(2, 10), -1);
+        }
+    }
+
+    private static void hasSettingsOf(TellingBench x, int a, int b, int c, int first) {
+        for (int i = 0; i < 27; i++) {
+            boolean has = i % 3 < a && i / 3 % 3 < b && i / 9 < c;
+            int want = !has ? -1 : i == 0 ? first : 0;
+            DUE.is("setting " + i + " of " + a + b + c, x.told(1, 10 + i), want);
+        }
+    }
+
+    private static void toldOfSettingsThatChange() {
+        TellingBench x = new TellingBench();
+        x.world(0, 1, 1, 1);
+        DUE.is("A has one state", x.told(0, 11), -1);
+        DUE.no("wrong world", x.world(0, 2, 1, 4));
+        DUE.is("A still has one", x.told(0, 11), -1);
+        x.weight(0, 0, 0, 0, 2);
+        DUE.yes("mix", x.mix(0, 0, 3));
+        DUE.is("mixed", x.told(3, 10), 4);
+        DUE.is("mixed has as many states", x.told(3, 11), -1);
+        DUE.is("C has one state", x.told(0, 28), -1);
+        DUE.yes("tell", x.tell(0, 1));
+        DUE.is("C has three states", x.told(0, 28), 0);
+        DUE.is("and is told", x.told(0, 19), 2);
+        DUE.is("A and B have one", x.told(0, 20), -1);
+        x.world(0, 2, 1, 1);
+        DUE.is("A has two states", x.told(0, 11), 0);
+        DUE.is("C has one again", x.told(0, 28), -1);
     }
 
     private static void mixAdds() {
