@@ -20,6 +20,10 @@ final class Due {
         }
     }
 
+    void is(String call, String got, String want) {
+        is(call + "\n  it was " + want + "\n  it is  " + got + "\n  the same (1) or not", got.equals(want), true);
+    }
+
     void is(String call, boolean got, boolean want) {
         is(call, got ? 1 : 0, want ? 1 : 0);
     }

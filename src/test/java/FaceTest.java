@@ -25,8 +25,9 @@ public final class FaceTest {
     /** Outside the language: rules 2, 4, 6 and 13. */
     private static final String[] REFUSED = {
         "\\bthrow\\b", "\\bthrows\\b", "\\btry\\b", "\\bcatch\\b", "\\bfinally\\b", "\\bsynchronized\\b",
-        "\\bassert\\b", "->", "::", "Exact\\b", "\\bBigInteger\\b", "\\bSystem\\.(?!arraycopy)",
-        "\\bpackage\\b", "^import (?!java\\.util\\.Arrays;)", "\\bMath\\.(?!abs|max|min)",
+        "\\bassert\\b", "^(?!.*\\b(case|default)\\b).*->", "::", "Exact\\b", "\\bBigInteger\\b",
+        "\\bSystem\\.(?!arraycopy)", "\\bpackage\\b", "^import (?!java\\.util\\.(Arrays|ArrayList|List|Iterator);)",
+        "\\bMath\\.(?!abs|max|min|floorDiv|floorMod|multiplyHigh|multiplyFull)",
     };
 
     public static void main(String[] args) throws IOException {

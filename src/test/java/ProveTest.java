@@ -17,7 +17,7 @@ public final class ProveTest {
         TellingBench x = new TellingBench();
         int[] numbers = new int[8];
         for (int code = 0; code < 78125; code++) {
-            if (code % 20 == 0) {
+            if (code % 18 == 0) {
                 x = new TellingBench();
             }
             int digits = code;

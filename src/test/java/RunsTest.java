@@ -3,13 +3,15 @@ import java.util.Random;
 /** All promises together: long runs of calls, right and wrong ones, against the model. */
 public final class RunsTest {
     private static final Due DUE = new Due("RunsTest");
-    private static final int RUNS = 300;
-    private static final int CALLS = 512;
+    private static final int RUNS = 900;
+    /** Each turn asks for up to 42 answers: with this many an object stays within its 512 calls. */
+    private static final int CALLS = 470;
     private static final int[] FAR = {Integer.MIN_VALUE, Integer.MIN_VALUE + 1, -1000, 1000, Integer.MAX_VALUE - 1, Integer.MAX_VALUE};
 
     private final Random random;
     private final TellingBench bench = new TellingBench();
     private final Model model = new Model();
+    private int calls = 0;
 
     private RunsTest(long seed) {
         random = new Random(seed);
@@ -18,11 +20,21 @@ public final class RunsTest {
     public static void main(String[] args) {
         for (int run = 0; run < RUNS; run++) {
             RunsTest test = new RunsTest(run);
-            for (int call = 0; call < CALLS; call++) {
-                test.call(call < 40 ? test.random.nextInt(6) : test.random.nextInt(30));
+            for (int turn = 0; test.calls < CALLS; turn++) {
+                test.call(turn < 40 ? test.random.nextInt(6) : test.random.nextInt(30));
             }
         }
         DUE.end();
+    }
+
+    private void is(String call, long got, long want) {
+        calls++;
+        DUE.is(call, got, want);
+    }
+
+    private void is(String call, boolean got, boolean want) {
+        calls++;
+        DUE.is(call, got, want);
     }
 
     /** Mostly from..to, seldom one beyond, seldom far away. */
@@ -51,22 +63,22 @@ public final class RunsTest {
             case 12 -> tellCall(g, some(0, 19682));
             case 13, 14, 15 -> lawCall(l, set, some(-2, 2));
             case 16 -> plainCall(l, some(0, 8));
-            case 17 -> DUE.is("number", bench.number(l, set), model.number(l, set));
-            case 18, 19 -> DUE.is("sign", bench.sign(g, l), model.sign(g, l));
-            case 20, 21 -> DUE.is("compare", bench.compare(g, l, h, m), model.compare(g, l, h, m));
-            case 22 -> DUE.is("near", bench.near(g, l), model.near(g, l));
+            case 17 -> is("number", bench.number(l, set), model.number(l, set));
+            case 18, 19 -> is("sign", bench.sign(g, l), model.sign(g, l));
+            case 20, 21 -> is("compare", bench.compare(g, l, h, m), model.compare(g, l, h, m));
+            case 22 -> is("near", bench.near(g, l), model.near(g, l));
             case 23 -> alwaysCalls(l, some(0, 511));
             case 24 -> alwaysCalls(l, 1 << random.nextInt(10));
-            case 25 -> DUE.is("prove", bench.prove(l), model.prove(l));
+            case 25 -> is("prove", bench.prove(l), model.prove(l));
             case 26 -> shareCalls(some(0, 8), some(0, 1));
-            case 27 -> DUE.is("mean", bench.mean(g, set), model.mean(g, set));
+            case 27 -> is("mean", bench.mean(g, set), model.mean(g, set));
             case 28 -> wordsCall();
             default -> secretCall(g, random.nextBoolean() ? 2 * some(1, 3) : some(0, 7));
         }
     }
 
     private void secretCall(int g, int set) {
-        DUE.is("secret of " + set, bench.secret(g, set), model.secret(g, set));
+        is("secret of " + set, bench.secret(g, set), model.secret(g, set));
     }
 
     private void worldCall(int g) {
@@ -78,7 +90,7 @@ public final class RunsTest {
             b = 2;
             c = 3;
         }
-        DUE.is("world", bench.world(g, a, b, c), model.world(g, a, b, c));
+        is("world", bench.world(g, a, b, c), model.world(g, a, b, c));
     }
 
     private void weightCall(int g) {
@@ -86,13 +98,13 @@ public final class RunsTest {
         int b = some(0, 2);
         int c = some(0, 2);
         int w = random.nextInt(4) == 0 ? some(0, 16) : random.nextInt(4);
-        DUE.is("weight", bench.weight(g, a, b, c, w), model.weight(g, a, b, c, w));
+        is("weight", bench.weight(g, a, b, c, w), model.weight(g, a, b, c, w));
         told(g, 0);
         told(g, 4);
     }
 
     private void told(int g, int what) {
-        DUE.is("told " + what, bench.told(g, what), model.told(g, what));
+        is("told " + what, bench.told(g, what), model.told(g, what));
     }
 
     private void allTold(int g) {
@@ -102,41 +114,41 @@ public final class RunsTest {
     }
 
     private void mixCall(int f, int h, int g) {
-        DUE.is("mix", bench.mix(f, h, g), model.mix(f, h, g));
+        is("mix", bench.mix(f, h, g), model.mix(f, h, g));
         allTold(g);
     }
 
     private void tellCall(int g, int rule) {
-        DUE.is("tell", bench.tell(g, rule), model.tell(g, rule));
+        is("tell", bench.tell(g, rule), model.tell(g, rule));
         allTold(g);
     }
 
     private void lawCall(int l, int set, int k) {
-        DUE.is("law", bench.law(l, set, k), model.law(l, set, k));
+        is("law", bench.law(l, set, k), model.law(l, set, k));
     }
 
     private void plainCall(int l, int p) {
-        DUE.is("plain", bench.plain(l, p), model.plain(l, p));
+        is("plain", bench.plain(l, p), model.plain(l, p));
         for (int set = -1; set < 9; set++) {
-            DUE.is("number after plain", bench.number(l, set), model.number(l, set));
+            is("number after plain", bench.number(l, set), model.number(l, set));
         }
     }
 
     private void alwaysCalls(int l, int givens) {
-        DUE.is("always", bench.always(l, givens), model.always(l, givens));
-        DUE.is("breaks", bench.breaks(l, givens), model.breaks(l, givens));
+        is("always", bench.always(l, givens), model.always(l, givens));
+        is("breaks", bench.breaks(l, givens), model.breaks(l, givens));
     }
 
     private void shareCalls(int k, int what) {
-        DUE.is("share", bench.share(k, what), model.share(k, what));
+        is("share", bench.share(k, what), model.share(k, what));
         for (int p = 0; p < 9; p++) {
-            DUE.is("share " + p, bench.share(p, 0), model.share(p, 0));
+            is("share " + p, bench.share(p, 0), model.share(p, 0));
         }
     }
 
     private void wordsCall() {
         int n = some(1, 8);
         int v = some(0, 99999999);
-        DUE.is("words", bench.words(n, v), model.words(n, v));
+        is("words", bench.words(n, v), model.words(n, v));
     }
 }

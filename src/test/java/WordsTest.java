@@ -18,12 +18,14 @@ public final class WordsTest {
     private static void wordsTriedOut() {
         TellingBench x = new TellingBench();
         for (int v = 0; v < 10000; v++) {
+            x = v % 100 == 0 ? new TellingBench() : x;
             for (int n = 1; n <= 4; n++) {
                 DUE.is("words " + n + " " + v, x.words(n, v), fit(lengths(n, v)));
             }
         }
         java.util.Random random = new java.util.Random(2);
         for (int turn = 0; turn < 20000; turn++) {
+            x = turn % 500 == 0 ? new TellingBench() : x;
             int v = 0;
             for (int i = 0; i < 8; i++) {
                 v = 10 * v + 1 + Math.min(8, random.nextInt(4) + random.nextInt(4));

@@ -44,6 +44,7 @@ public final class WorldsTest {
         TellingBench x = new TellingBench();
         for (int g = -2; g <= 5; g++) {
             for (int a = 0; a <= 4; a++) {
+                x = new TellingBench();
                 for (int b = 0; b <= 4; b++) {
                     for (int c = 0; c <= 4; c++) {
                         boolean good = g >= 0 && g <= 3 && a >= 1 && a <= 3 && b >= 1 && b <= 3 && c >= 1 && c <= 3;
@@ -136,6 +137,7 @@ public final class WorldsTest {
     private static void toldOfSettingsThatTheWorldHas() {
         TellingBench x = new TellingBench();
         for (int kind = 0; kind < 27; kind++) {
+            x = kind % 8 == 0 ? new TellingBench() : x;
             int a = kind % 3 + 1;
             int b = kind / 3 % 3 + 1;
             int c = kind / 9 + 1;
