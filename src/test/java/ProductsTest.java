@@ -1,7 +1,9 @@
 import java.lang.reflect.Constructor;
 import java.lang.reflect.Field;
 import java.lang.reflect.Method;
+import java.math.BigDecimal;
 import java.math.BigInteger;
+import java.math.MathContext;
 
 /**
  * Promises 10 to 12 from the inside: the way by products of whole numbers is seldom needed, so it is
@@ -24,6 +26,7 @@ public final class ProductsTest {
         for (Class<?> kind : TellingBench.class.getDeclaredClasses()) {
             if (kind.getSimpleName().equals("LogSum")) {
                 askProducts(kind);
+                askLogarithms();
                 DUE.end();
                 return;
             }
@@ -48,6 +51,35 @@ public final class ProductsTest {
             DUE.is("products " + asked, (int) byProducts.invoke(logSum), bigSign(row));
             DUE.is("sum " + asked, (int) byAll.invoke(logSum), bigSign(row));
         }
+    }
+
+    /** What is cut away is held to be below 1: so each logarithm must be right to its last bit. */
+    private static void askLogarithms() throws ReflectiveOperationException {
+        Field field = TellingBench.class.getDeclaredField("LOGS_CUT");
+        field.setAccessible(true);
+        long[] logs = (long[]) field.get(null);
+        for (int p = 0; p < PRIMES.length; p++) {
+            DUE.is("logarithm of " + PRIMES[p], logs[p], logarithmCut(PRIMES[p]));
+        }
+    }
+
+    /** 2 to the 40th times the logarithm to the base of 2, cut: squaring tells a bit at a time. */
+    private static long logarithmCut(int prime) {
+        BigDecimal two = BigDecimal.valueOf(2);
+        BigDecimal left = BigDecimal.valueOf(prime);
+        long cut = 0;
+        for (; left.compareTo(two) >= 0; left = left.divide(two)) {
+            cut++;
+        }
+        for (int bit = 0; bit < 40; bit++) {
+            left = left.multiply(left, new MathContext(80));
+            cut *= 2;
+            if (left.compareTo(two) >= 0) {
+                left = left.divide(two, new MathContext(80));
+                cut++;
+            }
+        }
+        return cut;
     }
 
     private static int bigSign(int[] times) {
