@@ -29,7 +29,7 @@ public final class TellingBench {
     /** Halves are counted in parts so small that a length of nine, the longest, takes one. */
     private static final int WHOLE_OF_HALVES = 512;
 
-    /** The plain ones, eight numbers each, for the sets 0 to 7. */
+    /** Eight numbers each: the empty set has one, too, so that a set is its number's place. */
     private static final int[] PLAIN_NUMBERS = {
         0, 0, 0, 0, 0, 0, -1, 1,
         0, 0, 0, 0, 0, -1, 0, 1,
@@ -42,7 +42,7 @@ public final class TellingBench {
         0, -1, 0, 1, 0, 1, 0, -1
     };
 
-    /** The rows of doubts, eight numbers each, for the sets 0 to 7. */
+    /** Eight numbers each, as of the plain ones. */
     private static final int[] ROW_NUMBERS = {
         0, 1, 0, 1, 0, 1, 0, 1,
         0, 0, 1, 1, 0, 0, 1, 1,
@@ -318,7 +318,7 @@ public final class TellingBench {
         return a + 3 * b + 9 * c;
     }
 
-    /** Adds a law's sum in a world, times the world's N and the given number. */
+    /** The sum is taken times N: each logarithm then comes a whole number of times. */
     private void addLawSum(World world, int[] numbers, int times) {
         for (int set = 1; set < SETS; set++) {
             if (numbers[set] != 0) {
@@ -327,7 +327,7 @@ public final class TellingBench {
         }
     }
 
-    /** Adds a set's doubt times N and the given number: N log N less all its w log w. */
+    /** All w / N log (N / w) added, times N, are N log N less all w log w. */
     private void addDoubt(World world, int set, int times) {
         world.gather(set, sums);
         logSum.addLog(world.total, times * world.total);
@@ -357,7 +357,7 @@ public final class TellingBench {
         return true;
     }
 
-    /** The sum by a row of the eight numbers that begin at a place of an array. */
+    /** The numbers may begin within an array, as those of the plain ones share one. */
     private static int sumByRow(int row, int[] numbers, int from) {
         int sum = 0;
         for (int set = 1; set < SETS; set++) {
@@ -392,7 +392,10 @@ public final class TellingBench {
         return i >= 3 && j >= 3 && i % 3 != j % 3;
     }
 
-    /** Finds the law's shares with those of i and j 0; false if one is below 0. */
+    /**
+     * Where i or j takes one of 3 and 6 (4 and 7, 5 and 8) away, the other must be all of that part.
+     * The one column that keeps both is open to make up what the middle part still wants.
+     */
     private boolean tryWithout(int i, int j) {
         int middle = parts[7];
         int open = 0;
@@ -422,7 +425,7 @@ public final class TellingBench {
         return true;
     }
 
-    /** Moves the sums above 0 to the front and answers how many there are. */
+    /** A setting of weight 0 has no word: only the front that is counted here takes part. */
     private int keepAboveNought() {
         int count = 0;
         for (int i = 0; i < SETTINGS; i++) {
@@ -446,7 +449,7 @@ public final class TellingBench {
         return bits;
     }
 
-    /** Swaps the least of the first sums, as many as told, with the last one of them. */
+    /** The order of the sums is free, so that one swap takes the least out of the front. */
     private void moveLeastToEnd(int count) {
         int least = 0;
         for (int i = 1; i < count; i++) {
@@ -459,7 +462,7 @@ public final class TellingBench {
         sums[count - 1] = kept;
     }
 
-    /** The states of three things, and a weight for each setting. */
+    /** Its states are 0 until they are told: it has no setting then. */
     private static final class World {
         private final int[] states = new int[THINGS];
         private final int[] weights = new int[SETTINGS];
@@ -517,7 +520,7 @@ public final class TellingBench {
             total = newTotal;
         }
 
-        /** Adds the weights over the things outside the set, whose states count as 0 there. */
+        /** A thing outside the set counts as in state 0, which adds the weights of all its states. */
         private void gather(int set, int[] into) {
             Arrays.fill(into, 0);
             for (int i = 0; i < SETTINGS; i++) {
@@ -528,7 +531,7 @@ public final class TellingBench {
             }
         }
 
-        /** Puts the weights of A and B's settings where the rule's digits have the state of C. */
+        /** Settings that A and B don't have weigh 0: all nine digits may be followed. */
         private void spreadByRule(int[] ofBoth, int rule) {
             Arrays.fill(weights, 0);
             int digits = rule;
@@ -601,8 +604,9 @@ public final class TellingBench {
     }
 
     /**
-     * A whole number above 0 of any size that a comparison needs: 14 doubts times N are at most
-     * 896 bits, times 16, of two worlds, 28,672; the row holds 32,768.
+     * A whole number above 0 of any size that is needed. A law's sum times N takes at most 14 doubts
+     * of 64 bits, 896: times 16 and of two worlds that is 28,672 for compare(), times 16 and with 16
+     * times the bound 30,720 for near(). The row holds 32,768.
      */
     private static final class Whole {
         private static final int MOST_DIGITS = 1024;
@@ -619,7 +623,7 @@ public final class TellingBench {
             length = 1;
         }
 
-        /** Leaves the number as it is if the power isn't above 0. */
+        /** A power below 0 does nothing here, as that prime is a factor of the other product. */
         private void multiplyByPower(int prime, int power) {
             long factor = 1;
             for (int left = power; left > 0; left--) {

@@ -21,7 +21,7 @@ final class Due {
     }
 
     void is(String call, String got, String want) {
-        is(call + "\n  it was " + want + "\n  it is  " + got + "\n  the same (1) or not", got.equals(want), true);
+        is(call + "\n  due is " + want + "\n  it is  " + got + "\n  the same (1) or not", got.equals(want), true);
     }
 
     void is(String call, boolean got, boolean want) {

@@ -1,7 +1,6 @@
 import java.io.IOException;
 import java.lang.reflect.Constructor;
 import java.lang.reflect.Field;
-import java.lang.reflect.Member;
 import java.lang.reflect.Method;
 import java.lang.reflect.Modifier;
 import java.nio.file.Files;
@@ -22,6 +21,15 @@ public final class FaceTest {
         "int breaks(int,int)", "boolean prove(int)", "int share(int,int)", "int mean(int,int)",
         "boolean words(int,int)", "int secret(int,int)");
 
+    /** Rule 5; the constants of an enum, and by rule 12 an array of them, would be fine, too. */
+    private static final Set<Class<?>> STATIC_TYPES = Set.of(int.class, long.class, boolean.class, char.class,
+        String.class, int[].class, long[].class, char[].class, byte[].class);
+
+    /** Rule 11. */
+    private static final int MOST_PARAMETERS = 7;
+    private static final int MOST_CLASSES = 12;
+    private static final int MOST_FIELDS = 20;
+
     /** Outside the language: rules 2, 4, 6 and 13. */
     private static final String[] REFUSED = {
         "\\bthrow\\b", "\\bthrows\\b", "\\btry\\b", "\\bcatch\\b", "\\bfinally\\b", "\\bsynchronized\\b",
@@ -33,6 +41,8 @@ public final class FaceTest {
     public static void main(String[] args) throws IOException {
         face();
         constants();
+        fields(TellingBench.class);
+        methods(TellingBench.class);
         nestedClasses();
         source();
         DUE.end();
@@ -42,18 +52,12 @@ public final class FaceTest {
         DUE.yes("public and final", Modifier.isPublic(TellingBench.class.getModifiers())
             && Modifier.isFinal(TellingBench.class.getModifiers()));
         Set<String> seen = new TreeSet<>();
-        Set<String> names = new TreeSet<>();
         for (Method method : TellingBench.class.getDeclaredMethods()) {
             if (!Modifier.isPrivate(method.getModifiers())) {
                 seen.add(form(method));
-                names.add(method.getName());
             }
         }
         DUE.yes("the methods: " + seen, seen.equals(new TreeSet<>(FACE)));
-        for (Method method : TellingBench.class.getDeclaredMethods()) {
-            DUE.yes("a private name of its own: " + method.getName(),
-                !Modifier.isPrivate(method.getModifiers()) || !names.contains(method.getName()));
-        }
         Constructor<?>[] makers = TellingBench.class.getDeclaredConstructors();
         DUE.is("constructors", makers.length, 1);
         DUE.is("its parameters", makers[0].getParameterCount(), 0);
@@ -72,22 +76,49 @@ public final class FaceTest {
         for (Field field : TellingBench.class.getDeclaredFields()) {
             boolean open = !Modifier.isPrivate(field.getModifiers());
             DUE.is("field " + field.getName(), open, field.getName().equals("NONE"));
-            staticIsFinal(field, field.getModifiers());
         }
     }
 
-    private static void staticIsFinal(Member member, int modifiers) {
-        DUE.yes("final if static: " + member.getName(), !Modifier.isStatic(modifiers) || Modifier.isFinal(modifiers));
+    private static void fields(Class<?> asked) {
+        int ofObjects = 0;
+        for (Field field : asked.getDeclaredFields()) {
+            if (!Modifier.isStatic(field.getModifiers())) {
+                ofObjects++;
+                continue;
+            }
+            DUE.yes("final, as static: " + field, Modifier.isFinal(field.getModifiers()));
+            DUE.yes("a type for static fields: " + field, isStaticType(field.getType()));
+        }
+        DUE.yes("at most " + MOST_FIELDS + " fields: " + asked, ofObjects <= MOST_FIELDS);
+    }
+
+    private static boolean isStaticType(Class<?> type) {
+        return STATIC_TYPES.contains(type) || type.isEnum() || type.isArray() && type.getComponentType().isEnum();
+    }
+
+    private static void methods(Class<?> asked) {
+        Set<String> open = new TreeSet<>();
+        for (Method method : TellingBench.class.getDeclaredMethods()) {
+            if (Modifier.isPublic(method.getModifiers())) {
+                open.add(method.getName());
+            }
+        }
+        for (Method method : asked.getDeclaredMethods()) {
+            DUE.yes("a private name of its own: " + method,
+                !Modifier.isPrivate(method.getModifiers()) || !open.contains(method.getName()));
+            DUE.yes("at most " + MOST_PARAMETERS + " parameters: " + method, method.getParameterCount() <= MOST_PARAMETERS);
+        }
     }
 
     private static void nestedClasses() {
-        for (Class<?> nested : TellingBench.class.getDeclaredClasses()) {
+        Class<?>[] all = TellingBench.class.getDeclaredClasses();
+        DUE.yes("at most " + MOST_CLASSES + " classes", all.length < MOST_CLASSES);
+        for (Class<?> nested : all) {
             int modifiers = nested.getModifiers();
             DUE.yes("static: " + nested, Modifier.isStatic(modifiers));
             DUE.no("open: " + nested, Modifier.isPublic(modifiers) || Modifier.isProtected(modifiers));
-            for (Field field : nested.getDeclaredFields()) {
-                staticIsFinal(field, field.getModifiers());
-            }
+            fields(nested);
+            methods(nested);
         }
     }
 
